@@ -413,13 +413,13 @@ public final class BarRoutine {
     /** Leaves in finest the pick of so many pieces with the greatest mean. */
     private void findFinest(int many) {
         int picks = picksOf(many);
+        // With 200 on top every mean is above 0.
         int greatest = 0;
-        finest.size = 0;
         // Picks go up by the numbers in them, so of like ones the first one stays.
         for (int number = 0; number < picks; number++) {
             if (pickByNumber(number, many)) {
                 int mean = trial.meanInHundredths();
-                if (finest.size == 0 || mean > greatest) {
+                if (mean > greatest) {
                     greatest = mean;
                     finest.copyFrom(trial);
                 }
@@ -436,7 +436,7 @@ public final class BarRoutine {
         return picks;
     }
 
-    /** Puts into trial the pieces that are the number's digits, by how many pieces there are; false if two are one. */
+    /** Puts into trial the pieces that a number's digits name, in base of how many there are; false if two are one. */
     private boolean pickByNumber(int number, int many) {
         trial.size = 0;
         int unit = picksOf(many - 1);
@@ -456,10 +456,8 @@ public final class BarRoutine {
 
     /** How often of ten a piece succeeds behind so many others. */
     private static int chanceOf(int kind, int sure, int behind) {
-        if (kind == HOLD || behind <= 2) {
-            return sure;
-        }
-        return Math.max(0, sure - (behind - 2));
+        int tired = kind == HOLD ? 0 : Math.max(0, behind - 2);
+        return Math.max(0, sure - tired);
     }
 
     /** The letters from which a gym is read. */
