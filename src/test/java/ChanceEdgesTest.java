@@ -43,7 +43,7 @@ public final class ChanceEdgesTest extends Edges {
     // ---- promise 13
 
     private static void meanOfNothing() {
-        sentence(13, "MEAN, nothing in the ROUTINE");
+        sentence(13, "MEAN: what = 0 above, 1 below", "nothing in the ROUTINE");
         mean("nothing", Check.withGym(FIVE), 190, 1);
         BarRoutine x = Check.withGym(FIVE, 2);
         x.take(0);
@@ -82,7 +82,7 @@ public final class ChanceEdgesTest extends Edges {
     // ---- promise 14
 
     private static void oddsAsMuchOrMore() {
-        sentence(14, "ODDS for some SCORE: how likely there is as much, or more");
+        term("ODDS for some SCORE: how likely there is as much, or more");
         // 4 - 5 with .5, else -15
         BarRoutine x = Check.withGym("t45,p11", 0);
         odds(x, -1, 1, 2);
@@ -117,7 +117,7 @@ public final class ChanceEdgesTest extends Edges {
     }
 
     private static void oddsOfTired() {
-        sentence(14, "how likely, of pieces that are tired to 0 of ten");
+        sentence(14, "ODDS: what = 0 above, 1 below", "tired to 0 of ten");
         BarRoutine x = Check.withGym("h19,h19,h19,p91,p92", 0, 1, 2, 3);
         // At place 3 it never succeeds: 3 - 10 - 10 is the most.
         odds(x, -17, 729, 1000);
@@ -165,7 +165,7 @@ public final class ChanceEdgesTest extends Edges {
     }
 
     private static void bestFirstByNumbers() {
-        sentence(15, "the greatest MEAN: of like ones the first by numbers");
+        term("the greatest MEAN: of like ones the first by numbers");
         BarRoutine like = Check.withGym("p55,p55,p55,p55,p55,p55,p55");
         best(like, 1, 0);
         best(like, 2, 0, 1);
@@ -217,7 +217,7 @@ public final class ChanceEdgesTest extends Edges {
     }
 
     private static void bestOfItsOwn() {
-        sentence(15, "which, in which order, as a ROUTINE of their own");
+        term("which, in which order, as a ROUTINE of their own");
         BarRoutine x = Check.withGym("t59,p19,f59,p99,p11,p11,p11", 4, 5, 6, 2, 0);
         long before = x.digest();
         best(x, 2, 2, 0);
@@ -289,7 +289,7 @@ public final class ChanceEdgesTest extends Edges {
     // ---- promise 16
 
     private static void moreNoneGreater() {
-        sentence(16, "nothing, if none makes them greater");
+        term("nothing, if none makes them greater");
         BarRoutine x = Check.withGym("t97,p11");
         due("more(-100): 1 as it is", x.more(-100), NONE);
         due("more(-10): 1 as it is", x.more(-10), NONE);
@@ -307,7 +307,7 @@ public final class ChanceEdgesTest extends Edges {
     }
 
     private static void moreOfLikeOnes() {
-        sentence(16, "so that the ODDS are greatest; of like ones the least.");
+        term("nothing, if none makes them greater: of like ones the least");
         BarRoutine x = Check.withGym("p55,p55,p55,p55");
         due("more(-5)", x.more(-5), 0);
         x.put(0);
@@ -327,7 +327,7 @@ public final class ChanceEdgesTest extends Edges {
     }
 
     private static void moreBehindIt() {
-        sentence(16, "which PIECE that is not in the ROUTINE to put behind it");
+        term("which PIECE that is not in the ROUTINE to put behind it");
         BarRoutine x = Check.withGym("h19,h19,h19,p91,h11", 0, 1, 2);
         due("more(-7): none is surer", x.more(-7), NONE);
         due("more(-6): at place 3 the piece never succeeds", x.more(-6), 4);

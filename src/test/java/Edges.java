@@ -15,11 +15,17 @@ abstract class Edges {
     /** As much as a gym can hold. */
     static final String SEVEN = "p11,f12,t13,h14,r15,p96,f97";
 
-    /** The sentence whose test begins. */
+    /** The sentence whose test begins, in the document's words. */
     static void sentence(int promise, String words) {
         Check.part("promise " + promise + ", \"" + words + "\"");
     }
 
+    /** One case of a sentence. */
+    static void sentence(int promise, String words, String when) {
+        Check.part("promise " + promise + ", \"" + words + "\", " + when);
+    }
+
+    /** A sentence of the terms. */
     static void term(String words) {
         Check.part("terms, \"" + words + "\"");
     }

@@ -90,7 +90,8 @@ public final class GymEdgesTest extends Edges {
         for (int kind = 0; kind <= 4; kind++) {
             due("piece(" + kind + ", 0)", x.piece(kind, 0), kind);
         }
-        for (String text : new String[] {"P11,p11", "F11,p11", "T11,p11", "H11,p11", "R11,p11", "o11,p11", "s11,p11"}) {
+        String[] wrong = {"P11,p11", "F11,p11", "T11,p11", "H11,p11", "R11,p11", "o11,p11", "s11,p11"};
+        for (String text : wrong) {
             due("gym() of \"" + text + "\"", Check.withPage(text).gym(), STATE);
         }
     }

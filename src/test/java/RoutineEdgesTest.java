@@ -65,7 +65,8 @@ public final class RoutineEdgesTest extends Edges {
         for (char kind : "pftr".toCharArray()) {
             for (int place = 0; place < 5; place++) {
                 for (int sure = 1; sure <= 9; sure++) {
-                    due(kind + " as sure as " + sure + " at " + place, chance(kind, sure, place), tired[place][sure - 1]);
+                    int want = tired[place][sure - 1];
+                    due(kind + " as sure as " + sure + " at " + place, chance(kind, sure, place), want);
                 }
             }
         }

@@ -96,7 +96,8 @@ public final class TriedEdgesTest extends Edges {
         howSure("eight successes at 4", "p11,p11", 508, 9, 4, 4, 4, 4, 4, 4, 4, 4);
         howSure("eight successes of a hold", "h11,p11", 511, 9, 4, 4, 4, 4, 4, 4, 4, 4);
         howSure("seven falls and a success", "p11,p11", 511, 1, 10, 10, 10, 10, 10, 10, 10, 0);
-        howSure("a success and seven falls at 4: 3 with 1 * 9 to the 7", "p11,p11", 508, 3, 4, 14, 14, 14, 14, 14, 14, 14);
+        // As sure as 3 it has 1 of ten there
+        howSure("a success and seven falls at 4", "p11,p11", 508, 3, 4, 14, 14, 14, 14, 14, 14, 14);
         howSure("what was the ninth is not tried", "p11,p11", 511, 1, 10, 10, 10, 10, 10, 10, 10, 10, 4);
         BarRoutine x = Check.withGym("p11,p11");
         for (int i = 1; i <= 8; i++) {
@@ -137,7 +138,7 @@ public final class TriedEdgesTest extends Edges {
     }
 
     private static void tryFull() {
-        sentence(17, "It is TRIED: how much is. FULL.");
+        sentence(17, "It is TRIED: how much is.", "FULL");
         BarRoutine x = Check.withGym("p11,p11");
         for (int i = 1; i <= 8; i++) {
             due("tryIt(1, 4, false), " + i, x.tryIt(1, 4, false), i);
@@ -192,7 +193,7 @@ public final class TriedEdgesTest extends Edges {
     // ---- promise 19
 
     private static void meetsOfNothing() {
-        sentence(19, "so many times the ROUTINE is done, nothing in it");
+        sentence(19, "MEETS: what = 0 how many times, 1 all SCORES, and 20000, 2 the SEED then.", "nothing in it");
         BarRoutine x = Check.withGym(FIVE);
         for (int times : new int[] {1, 2, 59, 60}) {
             for (int seed : new int[] {0, 1, MOST}) {
@@ -227,7 +228,7 @@ public final class TriedEdgesTest extends Edges {
     }
 
     private static void meetsLessThan() {
-        sentence(19, "a DRAW of 10: it succeeds, if that is less than how often of ten");
+        term("a DRAW of 10: it succeeds, if that is less than how often of ten");
         for (int sure = 1; sure <= 9; sure++) {
             BarRoutine x = Check.withGym("p1" + sure + ",p11", 0);
             for (int draw = 0; draw <= 9; draw++) {
@@ -241,7 +242,7 @@ public final class TriedEdgesTest extends Edges {
     }
 
     private static void meetsNeverAndTired() {
-        sentence(19, "of each PIECE, by PLACES, a DRAW of 10, 0 of ten, too");
+        term("so many times the ROUTINE is done, of each PIECE, by PLACES, a DRAW of 10");
         BarRoutine x = Check.withGym("p19,p19,p19,p19,p12,h12", 0, 1, 2, 3, 4);
         int seed = seedFor(5, 0);
         int want = 20000 - 10;
@@ -263,7 +264,7 @@ public final class TriedEdgesTest extends Edges {
     }
 
     private static void drawsWrap() {
-        sentence(19, "1103515245 times it and 12345, its rest by 2 to the 31");
+        term("1103515245 times it and 12345, its rest by 2 to the 31");
         BarRoutine x = Check.withGym("p15,p11", 0);
         due("meets(1, 0, 2)", x.meets(1, 0, 2), 12345);
         due("meets(1, 1, 2)", x.meets(1, 1, 2), 1103527590);
@@ -285,7 +286,7 @@ public final class TriedEdgesTest extends Edges {
     }
 
     private static void drawsRoundedDown() {
-        sentence(19, "then that by 65536 (rounded down), its rest.");
+        term("then that by 65536 (rounded down), its rest");
         draws(0, 0);
         draws(65535, 0);
         draws(65536, 1);

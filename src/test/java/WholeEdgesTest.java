@@ -9,6 +9,7 @@ public final class WholeEdgesTest extends Edges {
         imageNoGym();
         restoreGoesOn();
         restoreTried();
+        restoreFull();
         restoreNoneKept();
         restoreAnotherGym();
         countsAreOfWhatIs();
@@ -53,7 +54,7 @@ public final class WholeEdgesTest extends Edges {
     }
 
     private static void imageOfNothing() {
-        sentence(20, "An IMAGE is kept, nothing in the ROUTINE");
+        sentence(20, "An IMAGE is kept", "nothing in the ROUTINE");
         BarRoutine x = Check.withGym(SEVEN);
         due("image()", x.image(), 0);
         x.put(0);
@@ -101,7 +102,7 @@ public final class WholeEdgesTest extends Edges {
     }
 
     private static void restoreTried() {
-        sentence(21, "An IMAGE keeps the ROUTINE, how often it was changed, TRIED.");
+        term("An IMAGE keeps the ROUTINE, how often it was changed, TRIED");
         BarRoutine x = Check.withGym("p11,p12,p13");
         x.tryIt(0, 3, true);
         x.tryIt(1, 4, true);
@@ -129,6 +130,30 @@ public final class WholeEdgesTest extends Edges {
         due("restore() again", x.restore(), 0);
         due("digest() again", x.digest(), before);
         due("tryIt(0, 0, true)", x.tryIt(0, 0, true), 4);
+    }
+
+    private static void restoreFull() {
+        sentence(21, "It goes on from the IMAGE", "full");
+        BarRoutine x = Check.withGym(SEVEN, 6, 0, 5, 1, 4);
+        for (int i = 0; i < 8; i++) {
+            x.tryIt(i % 7, 1 + i % 4, i % 2 == 1);
+        }
+        x.image();
+        long before = x.digest();
+        x.forget();
+        for (int i = 0; i < 5; i++) {
+            x.take(0);
+            x.tryIt(i, 4, true);
+        }
+        due("restore()", x.restore(), 5);
+        due("digest()", x.digest(), before);
+        routine("five", x, 6, 0, 5, 1, 4);
+        still(x, "tryIt(0, 0, true), full again", () -> x.tryIt(0, 0, true), FULL);
+        still(x, "put(2), full again", () -> x.put(2), FULL);
+        x.image();
+        due("restore() of the second image", x.restore(), 5);
+        due("digest() of the second image", x.digest(), before);
+        due("forget()", x.forget(), 8);
     }
 
     private static void restoreNoneKept() {
@@ -260,7 +285,7 @@ public final class WholeEdgesTest extends Edges {
     // ---- promise 23
 
     private static void digestNoGym() {
-        sentence(23, "with a GYM the SCORE without FALLS, and 200 ...; letters of THE PAGE, each by its code");
+        sentence(23, "letters of THE PAGE, each by its code", "no gym");
         BarRoutine x = new BarRoutine();
         due("digest(), new", x.digest(), hashOf(0, 0, 0, 0, 0, 0, 0, 0, 0, 0));
         x.letter(126);
@@ -322,7 +347,7 @@ public final class WholeEdgesTest extends Edges {
     }
 
     private static void digestTellsOnly() {
-        sentence(23, "digest() tells only");
+        sentence(23, "h is 1033, then for each of these numbers, in order", "again and again");
         BarRoutine x = Check.withGym(FIVE, 0, 1);
         x.tryIt(0, 4, true);
         x.image();
